@@ -224,7 +224,6 @@ public final class AgainstReferenceTest {
             test.same("digest()", test.moves::digest, test.reference::digest);
         }
         int asked = answers.values().stream().mapToInt(Integer::intValue).sum();
-        // a kind of answer that no run brings is one that is not tested here
         System.out.println(answers.size() + " kinds of answers");
         System.out.println(wrong == 0 ? "all " + asked + " answers are as due" : wrong + " answers are not as due");
         if (wrong != 0) System.exit(1);
