@@ -148,6 +148,10 @@ public final class BoardEdgesTest extends Cases {
             x.bid(1, 0);
             dueAll(row(2, 0, 11), x.addMove(0, 5), x.count(3), x.move(5));
         });
+        test(2, "nothing else is changed", () -> {
+            dueChanges("count9 position6.1 position6.2 position7.6", Cases::rich, x -> x.addMove(6, 7));
+            dueChanges("count9 position3.1 position3.4 position7.6", Cases::strange, x -> x.addMove(3, 7));
+        });
         test(2, "undoable", () -> dueUndone(x -> x.addMove(5, 7)));
     }
 
@@ -170,7 +174,8 @@ public final class BoardEdgesTest extends Cases {
         test(3, "4 moves, and none of them is left", () -> {
             BiddenMoves x = board("0:1234");
             dueAll(row(4, 0, 0), x.clearMoves(0), x.positionOf(0, 1), x.clearMoves(0));
-            dueAll(row(-1, -1, -1, -1), x.positionOf(0, 2), x.positionOf(0, 3), x.positionOf(0, 4), x.positionOf(0, 5));
+            dueAll(row(-1, -1, -1, -1), x.positionOf(0, 2), x.positionOf(0, 3), x.positionOf(0, 4),
+                    x.positionOf(0, 5));
             dueAll(row(0, 0), x.positionOf(1, 6), x.positionOf(4, 6));
         });
         test(3, "moves to the position stay", () -> {
@@ -186,6 +191,11 @@ public final class BoardEdgesTest extends Cases {
             BiddenMoves x = board("0:1;1:0");
             x.bid(0, 1);
             dueAll(row(1, 1, 1), x.clearMoves(0), x.count(1), x.count(3));
+        });
+        test(3, "nothing else is changed", () -> {
+            dueChanges("count1 count9 position0.1 position0.2 position0.3 position0.4 position0.5 position1.6 position2.6"
+                    + " position3.6 position4.6", Cases::rich, x -> x.clearMoves(0));
+            dueChanges("count9 position6.1 position6.2 position3.6", Cases::strange, x -> x.clearMoves(6));
         });
         test(3, "undoable", () -> dueUndone(x -> x.clearMoves(0)));
         test(3, "undoable, also if it changes nothing", () -> dueUndone(x -> x.clearMoves(7)));
@@ -227,8 +237,8 @@ public final class BoardEdgesTest extends Cases {
         });
         test(4, "the answer is the mark before, for each mark", () -> {
             BiddenMoves x = new BiddenMoves();
-            dueAll(row(0, 1, 2, 2, 0, 2, 1, 1, 0), x.mark(3, 1), x.mark(3, 2), x.mark(3, 2), x.mark(3, 0), x.mark(3, 2),
-                    x.mark(3, 1), x.mark(3, 1), x.mark(3, 0), x.positionOf(3, 0));
+            dueAll(row(0, 1, 2, 2, 0, 2, 1, 1, 0), x.mark(3, 1), x.mark(3, 2), x.mark(3, 2), x.mark(3, 0),
+                    x.mark(3, 2), x.mark(3, 1), x.mark(3, 1), x.mark(3, 0), x.positionOf(3, 0));
         });
         test(4, "1 is won for the player 0, 2 for the player 1", () -> {
             BiddenMoves x = board("0:1");
@@ -244,13 +254,21 @@ public final class BoardEdgesTest extends Cases {
         });
         test(4, "a mark ends the game at its position, without it the game goes on", () -> {
             BiddenMoves x = board("0:1;1:0");
-            dueAll(row(0, 0, 1, 1, 0, 0), x.count(1), x.mark(0, 1), x.count(1), x.mark(0, 0), x.count(1), x.mark(1, 2));
+            dueAll(row(0, 0, 1, 1, 0, 0), x.count(1), x.mark(0, 1), x.count(1), x.mark(0, 0), x.count(1),
+                    x.mark(1, 2));
             due(0, x.count(1));
         });
         test(4, "a turn that is bought stays bought", () -> {
             BiddenMoves x = board("0:1;1:0");
             x.bid(0, 1);
             dueAll(row(0, 1, 2, 10), x.mark(0, 2), x.count(3), x.mark(0, 0), x.move(1));
+        });
+        test(4, "nothing else is changed", () -> {
+            dueChanges("position7.0 player0.4", Cases::rich, x -> x.mark(7, 1));
+            dueChanges("position1.0 player0.4 player1.4", Cases::rich, x -> x.mark(1, 2));
+            dueChanges("position0.0 player1.4", Cases::strange, x -> x.mark(0, 0));
+            dueChanges("position3.0 player0.4 count1 count2", Cases::strange, x -> x.mark(3, 1));
+            dueChanges("", Cases::strange, x -> x.mark(0, 2));
         });
         test(4, "undoable", () -> dueUndone(x -> x.mark(0, 2)));
         test(4, "undoable, also if it changes nothing", () -> dueUndone(x -> x.mark(1, 1)));
@@ -320,6 +338,12 @@ public final class BoardEdgesTest extends Cases {
             x.reverse();
             x.reverse();
             dueLooks(looks(rich()), looks(x));
+        });
+        test(5, "nothing else is changed", () -> {
+            String sides = " player0.0 player1.0 player0.1 player1.1 count3 count4";
+            dueChanges("position1.0 position2.0" + sides, Cases::rich, x -> x.reverse());
+            dueChanges("position0.0 position1.0 position2.0 player0.4 player1.4" + sides, Cases::strange,
+                    x -> x.reverse());
         });
         test(5, "undoable", () -> dueUndone(x -> x.reverse()));
     }
@@ -404,6 +428,13 @@ public final class BoardEdgesTest extends Cases {
             x.set(0, 2);
             dueAll(row(0, 2, 1, 1, 9), x.count(0), x.count(6), x.count(7), x.count(8), x.count(9));
             dueAll(row(2, 2, 1), x.playerOf(0, 3), x.playerOf(1, 3), x.positionOf(1, 0));
+        });
+        test(6, "nothing else is changed", () -> {
+            dueChanges("setting0 count5 player0.0 player1.0", Cases::rich, x -> x.set(0, 20));
+            dueChanges("setting0 count5 player0.0 player1.0", Cases::strange, x -> x.set(0, 2));
+            dueChanges("player0.0 player1.0", Cases::strange, x -> x.set(0, 9));
+            dueChanges("setting1", Cases::rich, x -> x.set(1, 12));
+            dueChanges("setting1", Cases::strange, x -> x.set(1, 0));
         });
         test(6, "undoable, with the budgets", () -> {
             dueUndone(x -> x.set(0, 20));

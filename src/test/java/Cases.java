@@ -2,6 +2,7 @@ import java.util.ArrayList;
 import java.util.Arrays;
 import java.util.List;
 import java.util.TreeMap;
+import java.util.TreeSet;
 
 /** What the tests of the document's boundary cases share: cases with names, and objects to try them on. */
 abstract class Cases {
@@ -61,7 +62,9 @@ abstract class Cases {
 
     /** The bits tell -0.0 and 0.0 apart. */
     static void dueShare(double want, double got) {
-        if (Double.doubleToLongBits(got) != Double.doubleToLongBits(want)) wrong("answered " + got + ", due is " + want);
+        if (Double.doubleToLongBits(got) != Double.doubleToLongBits(want)) {
+            wrong("answered " + got + ", due is " + want);
+        }
     }
 
     /** The exception's own class must be the one named, not one below it; and the call must change nothing. */
@@ -79,6 +82,7 @@ abstract class Cases {
 
     static void dueThrow(Class<? extends RuntimeException> want, Call call) {
         dueThrow(want, Cases::rich, call);
+        dueThrow(want, Cases::strange, call);
     }
 
     /** The call changes nothing at all. */
@@ -86,6 +90,52 @@ abstract class Cases {
         BiddenMoves x = maker.make();
         call.of(x);
         if (!history(x).equals(history(maker.make()))) wrong("changed something");
+    }
+
+    static void dueSame(Call call) {
+        dueSame(Cases::rich, call);
+        dueSame(Cases::strange, call);
+    }
+
+    /**
+     * Of what looks() shows, the call changes just what is named; and neither a slot nor the buffer. The maker's
+     * objects have six saved states.
+     */
+    static void dueChanges(String changed, Maker maker, Call call) {
+        BiddenMoves x = maker.make();
+        BiddenMoves same = maker.make();
+        call.of(x);
+        TreeMap<String, Long> then = named(x);
+        TreeSet<String> differ = new TreeSet<>();
+        named(same).forEach((what, value) -> {
+            if (!value.equals(then.get(what))) differ.add(what);
+        });
+        TreeSet<String> want = new TreeSet<>();
+        for (String what : changed.split(" ")) if (!what.isEmpty()) want.add(what);
+        if (!differ.equals(want)) wrong("changed " + differ + ", due is " + want);
+        for (int slot = 0; slot < 2; slot++) {
+            x.goBack(slot);
+            same.goBack(slot);
+            if (x.digest() != same.digest()) wrong("changed the slot " + slot + " or the buffer");
+        }
+    }
+
+    /** What looks() shows, by names; but for the positions at which a win can be forced. */
+    private static TreeMap<String, Long> named(BiddenMoves x) {
+        TreeMap<String, Long> seen = new TreeMap<>();
+        for (int what = 0; what <= 9; what++) seen.put("count" + what, (long) x.count(what));
+        for (int setting = 0; setting < 2; setting++) seen.put("setting" + setting, (long) x.setting(setting));
+        for (int position = 0; position < 8; position++) {
+            for (int what = 0; what <= 6; what++) {
+                seen.put("position" + position + "." + what, (long) x.positionOf(position, what));
+            }
+        }
+        for (int player = 0; player < 2; player++) {
+            for (int what = 0; what <= 4; what++) {
+                seen.put("player" + player + "." + what, (long) x.playerOf(player, what));
+            }
+        }
+        return seen;
     }
 
     /** All that can be seen of the present state, but for the buffer, the slots and the saved states. */
@@ -133,11 +183,15 @@ abstract class Cases {
         due(saved + 1, few.count(10));
         due(saved, few.undo());
         if (!history(few).equals(history(few()))) wrong("is not undone");
-        BiddenMoves many = rich();
-        call.of(many);
-        due(6, many.count(10));
-        due(5, many.undo());
-        if (!looks(many).equals(looks(rich()))) wrong("is not undone, with six saved states");
+        dueUndoneOfSix(rich(), rich(), call);
+        dueUndoneOfSix(strange(), strange(), call);
+    }
+
+    private static void dueUndoneOfSix(BiddenMoves x, BiddenMoves same, Call call) {
+        call.of(x);
+        due(6, x.count(10));
+        due(5, x.undo());
+        dueLooks(looks(same), looks(x));
     }
 
     static void type(BiddenMoves x, String text) {
@@ -176,6 +230,26 @@ abstract class Cases {
         x.keep(1);
         x.move(0);
         x.bid(2, 1);
+        type(x, "0:1;7:");
+        return x;
+    }
+
+    /**
+     * As rich(), but with another position, the star and the turn with the player 1, and a mark of the position 0:
+     * whatever a new object has is otherwise here. The budgets are 6 and 3, too.
+     */
+    static BiddenMoves strange() {
+        BiddenMoves x = board("0:1234;1:A;2:B;3:01;4:0;5:02;6:3");
+        x.set(0, 9);
+        x.set(1, 5);
+        x.keep(0);
+        x.mark(0, 2);
+        x.place(6, 4, 0);
+        x.bid(10, 0);
+        x.bid(2, 2);
+        x.move(3);
+        x.keep(1);
+        x.bid(0, 4);
         type(x, "0:1;7:");
         return x;
     }

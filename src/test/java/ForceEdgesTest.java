@@ -63,7 +63,7 @@ public final class ForceEdgesTest extends Cases {
             dueThrow(ARGUMENT, x -> x.force(0, 1, 0, 2, 0));
             dueThrow(ARGUMENT, x -> x.force(0, 1, 0, 0, 13));
         });
-        test(21, "nothing is changed", () -> dueSame(Cases::rich, x -> x.force(0, 0, 5, 1, 12)));
+        test(21, "nothing is changed", () -> dueSame(x -> x.force(0, 0, 5, 1, 12)));
     }
 
     private static void forceWithoutATurn() {
@@ -217,8 +217,8 @@ public final class ForceEdgesTest extends Cases {
             dueThrow(INDEX, x -> x.threshold(0, 8, -1, -1));
         });
         test(22, "nothing is changed", () -> {
-            dueSame(Cases::rich, x -> x.threshold(0, 0, 1, 0));
-            dueSame(Cases::rich, x -> x.threshold(1, 0, 0, 1));
+            dueSame(x -> x.threshold(0, 0, 1, 0));
+            dueSame(x -> x.threshold(1, 0, 0, 1));
         });
     }
 
@@ -400,8 +400,8 @@ public final class ForceEdgesTest extends Cases {
             dueAll(row(2, -1), x.advice(0), x.advice(1));
         });
         test(23, "nothing is changed", () -> {
-            dueSame(Cases::rich, x -> x.advice(0));
-            dueSame(Cases::rich, x -> x.advice(1));
+            dueSame(x -> x.advice(0));
+            dueSame(x -> x.advice(1));
         });
     }
 
@@ -437,8 +437,8 @@ public final class ForceEdgesTest extends Cases {
             dueThrow(ARGUMENT, () -> fork(8, 0, 1), x -> x.refuted(0, 1));
         });
         test(24, "nothing is changed", () -> {
-            dueSame(Cases::rich, x -> x.refuted(0, 6));
-            dueSame(Cases::rich, x -> x.refuted(1, 0));
+            dueSame(x -> x.refuted(0, 6));
+            dueSame(x -> x.refuted(1, 0));
         });
     }
 
@@ -453,7 +453,8 @@ public final class ForceEdgesTest extends Cases {
         test(24, "the whole budget, without the star: by the other one's whole budget",
                 () -> due(4, fork(8, 4, 0).refuted(1, 4)));
         test(24, "none, if the other one has no chip to top it", () -> {
-            dueAll(row(-1, 0, -1), fork(8, 8, 0).refuted(0, 0), fork(8, 8, 1).refuted(0, 0), fork(8, 8, 1).refuted(0, 1));
+            dueAll(row(-1, 0, -1), fork(8, 8, 0).refuted(0, 0), fork(8, 8, 1).refuted(0, 0),
+                    fork(8, 8, 1).refuted(0, 1));
         });
         test(24, "too much is paid: by the bid 0", () -> {
             BiddenMoves x = board(TWO_FORKS, 8, 7, 0);
@@ -558,8 +559,8 @@ public final class ForceEdgesTest extends Cases {
             dueThrow(INDEX, x -> x.bestMove(-1, 10));
         });
         test(25, "nothing is changed", () -> {
-            dueSame(Cases::rich, x -> x.bestMove(0, 6));
-            dueSame(Cases::rich, x -> x.bestMove(1, 0));
+            dueSame(x -> x.bestMove(0, 6));
+            dueSame(x -> x.bestMove(1, 0));
         });
     }
 
@@ -589,6 +590,11 @@ public final class ForceEdgesTest extends Cases {
             due(3, x.bestMove(0, 0));
             x.set(1, 1);
             dueAll(row(1, -1), x.bestMove(0, 0), x.bestMove(1, 0));
+        });
+        test(25, "none of the moves, with no turn left behind them", () -> {
+            BiddenMoves x = board("0:1234;1:0;2:0;3:B");
+            x.set(1, 1);
+            dueAll(row(-1, 3), x.bestMove(0, 0), x.bestMove(1, 0));
         });
         test(25, "NONE, if setting 1 is 0, though a move leads to a won position", () -> {
             BiddenMoves x = choice(4, 0);
@@ -647,7 +653,8 @@ public final class ForceEdgesTest extends Cases {
             x.place(3, 1, 1);
             due(11, x.winIn(0));
         });
-        test(26, "none, if it cannot be forced", () -> dueAll(row(-1, 1), fork(8, 4, 1).winIn(0), fork(8, 4, 1).winIn(1)));
+        test(26, "none, if it cannot be forced",
+                () -> dueAll(row(-1, 1), fork(8, 4, 1).winIn(0), fork(8, 4, 1).winIn(1)));
         test(26, "none, without moves", () -> {
             BiddenMoves x = new BiddenMoves();
             dueAll(row(-1, -1), x.winIn(0), x.winIn(1));
@@ -669,8 +676,8 @@ public final class ForceEdgesTest extends Cases {
             dueAll(row(1, -1), x.winIn(0), x.winIn(1));
         });
         test(26, "nothing is changed", () -> {
-            dueSame(Cases::rich, x -> x.winIn(0));
-            dueSame(Cases::rich, x -> x.winIn(1));
+            dueSame(x -> x.winIn(0));
+            dueSame(x -> x.winIn(1));
         });
     }
 
@@ -694,9 +701,11 @@ public final class ForceEdgesTest extends Cases {
             x.reverse();
             dueShare(1.0 / 8, x.forcedShare());
         });
-        test(27, "no chips: one budget alone, with both holders of the star", () -> dueShare(3.0 / 16, fork(0, 0, 0).forcedShare()));
+        test(27, "no chips: one budget alone, with both holders of the star",
+                () -> dueShare(3.0 / 16, fork(0, 0, 0).forcedShare()));
         test(27, "20 chips: 21 budgets", () -> dueShare((42 + 11 + 10) / 336.0, fork(20, 0, 0).forcedShare()));
-        test(27, "a share that no double tells exactly", () -> dueShare((18 + 9 + 4) / 144.0, board(TWO_FORKS).forcedShare()));
+        test(27, "a share that no double tells exactly",
+                () -> dueShare((18 + 9 + 4) / 144.0, board(TWO_FORKS).forcedShare()));
         test(27, "no turn: the positions that are won", () -> {
             BiddenMoves x = fork(8, 4, 0);
             x.set(1, 0);
@@ -718,12 +727,13 @@ public final class ForceEdgesTest extends Cases {
             x.place(2, 0, 0);
             dueShare(27.0 / 144, x.forcedShare());
         });
-        test(27, "nothing is changed", () -> dueSame(Cases::rich, x -> (long) (144 * x.forcedShare())));
+        test(27, "nothing is changed", () -> dueSame(x -> (long) (144 * x.forcedShare())));
     }
 
     /** The numbers were found by a program in another language, whose integers do not overflow. */
     private static void digest() {
-        test(28, "a new object: the hash overflows often", () -> due(-8825313925376906585L, new BiddenMoves().digest()));
+        test(28, "a new object: the hash overflows often",
+                () -> due(-8825313925376906585L, new BiddenMoves().digest()));
         test(28, "each slot: 1 if it has a snapshot, otherwise 0, and the characters of the buffer", () -> {
             BiddenMoves x = new BiddenMoves();
             x.keep(1);
@@ -758,7 +768,8 @@ public final class ForceEdgesTest extends Cases {
             type(x, "~".repeat(60));
             due(-689455625493920541L, x.digest());
         });
-        test(28, "a board, with a share that no double tells exactly", () -> due(8910677071910169949L, board(TWO_FORKS).digest()));
+        test(28, "a board, with a share that no double tells exactly",
+                () -> due(8910677071910169949L, board(TWO_FORKS).digest()));
         test(28, "a turn that is bought, and counts", () -> {
             BiddenMoves x = board(TWO_FORKS);
             x.bid(1, 0);
@@ -787,7 +798,7 @@ public final class ForceEdgesTest extends Cases {
             BiddenMoves x = board("0:1234;1:2345;2:3456;3:4567;4:5670;5:6701;6:7012;7:0123");
             due(-7711782177794940199L, x.digest());
         });
-        test(28, "nothing is changed", () -> dueSame(Cases::rich, x -> x.digest()));
+        test(28, "nothing is changed", () -> dueSame(x -> x.digest()));
     }
 
     public static void main(String[] args) {

@@ -99,6 +99,12 @@ public final class GameEdgesTest extends Cases {
             x.place(7, 9, 0);
             dueAll(row(5, 9, 9, 1, 4), x.setting(1), x.setting(0), x.count(9), x.positionOf(1, 0), x.positionOf(0, 5));
         });
+        test(7, "nothing else is changed", () -> {
+            String sides = " player0.0 player1.0 player0.1 player1.1 count3 count4";
+            dueChanges("count0 count1" + sides, Cases::rich, x -> x.place(7, 2, 1));
+            dueChanges("count0 count1 count2" + sides, Cases::strange, x -> x.place(0, 0, 0));
+            dueChanges("count3", Cases::strange, x -> x.place(3, 6, 1));
+        });
         test(7, "undoable", () -> dueUndone(x -> x.place(5, 3, 1)));
         test(7, "undoable, also if it changes nothing", () -> {
             BiddenMoves x = board("0:1");
@@ -152,13 +158,15 @@ public final class GameEdgesTest extends Cases {
     }
 
     private static void bidsRefused() {
-        test(8, "reason 1: the game is over by a mark", () -> dueRefused(1, GameEdgesTest::overByMark, x -> x.bid(1, 0)));
+        test(8, "reason 1: the game is over by a mark",
+                () -> dueRefused(1, GameEdgesTest::overByMark, x -> x.bid(1, 0)));
         test(8, "reason 1: the game is over without moves",
                 () -> dueRefused(1, GameEdgesTest::overWithoutMoves, x -> x.bid(1, 0)));
         test(8, "reason 1 goes ahead of 2", () -> dueRefused(1, GameEdgesTest::overMeanwhile, x -> x.bid(1, 0)));
         test(8, "reason 1 goes ahead of 3", () -> dueRefused(1, GameEdgesTest::overByMark, x -> x.bid(-1, 0)));
         test(8, "reason 1 goes ahead of 4", () -> dueRefused(1, GameEdgesTest::overByMark, x -> x.bid(5, 5)));
-        test(8, "reason 2: the turn is bought already", () -> dueRefused(2, GameEdgesTest::boughtBy0, x -> x.bid(1, 0)));
+        test(8, "reason 2: the turn is bought already",
+                () -> dueRefused(2, GameEdgesTest::boughtBy0, x -> x.bid(1, 0)));
         test(8, "reason 2: the turn is bought already, by the player 1", () -> {
             dueRefused(2, () -> {
                 BiddenMoves x = open();
@@ -204,16 +212,28 @@ public final class GameEdgesTest extends Cases {
         });
     }
 
+    private static BiddenMoves richAt3() {
+        BiddenMoves x = rich();
+        x.move(3);
+        return x;
+    }
+
+    private static BiddenMoves strangeAt6() {
+        BiddenMoves x = strange();
+        x.place(6, 6, 1);
+        return x;
+    }
+
     private static void bidsTaken() {
         test(8, "a bid of the whole budget, of the player 0", () -> {
             BiddenMoves x = open();
-            dueAll(row(10, 0, 8, 0, 5, 1), x.bid(5, 3), x.playerOf(0, 0), x.playerOf(1, 0), x.count(3), x.playerOf(0, 3),
-                    x.playerOf(0, 2));
+            dueAll(row(10, 0, 8, 0, 5, 1), x.bid(5, 3), x.playerOf(0, 0), x.playerOf(1, 0), x.count(3),
+                    x.playerOf(0, 3), x.playerOf(0, 2));
         });
         test(8, "a bid of the whole budget, of the player 1", () -> {
             BiddenMoves x = open();
-            dueAll(row(11, 8, 0, 1, 3, 1), x.bid(2, 3), x.playerOf(0, 0), x.playerOf(1, 0), x.count(3), x.playerOf(1, 3),
-                    x.playerOf(1, 2));
+            dueAll(row(11, 8, 0, 1, 3, 1), x.bid(2, 3), x.playerOf(0, 0), x.playerOf(1, 0), x.count(3),
+                    x.playerOf(1, 3), x.playerOf(1, 2));
         });
         test(8, "a bid of 0 loses against 1", () -> {
             dueAll(row(10), open().bid(1, 0));
@@ -286,6 +306,17 @@ public final class GameEdgesTest extends Cases {
             dueAll(row(3, 1, 2, 1, 3, 4), x.count(6), x.count(7), x.playerOf(0, 2), x.playerOf(1, 2), x.playerOf(0, 3),
                     x.playerOf(1, 3));
         });
+        test(8, "nothing else is changed", () -> {
+            dueChanges("count3 count6 player0.0 player1.0 player1.2 player1.3", GameEdgesTest::richAt3,
+                    x -> x.bid(2, 3));
+            dueChanges("count3 count6 player0.0 player1.0 player0.2 player0.3", GameEdgesTest::richAt3,
+                    x -> x.bid(6, 0));
+            dueChanges("count3 count4 count6 count7 player0.0 player1.0 player0.1 player1.1 player1.2 player1.3",
+                    GameEdgesTest::strangeAt6, x -> x.bid(3, 3));
+            dueChanges("count8", GameEdgesTest::strangeAt6, x -> x.bid(-1, -1));
+            dueChanges("count8", Cases::rich, x -> x.bid(0, 0));
+            dueChanges("count8", Cases::strange, x -> x.bid(0, 0));
+        });
         test(8, "undoable", () -> {
             BiddenMoves x = board("0:1", 8, 5, 0);
             List<Long> before = looks(x);
@@ -300,7 +331,8 @@ public final class GameEdgesTest extends Cases {
     }
 
     private static void movesRefused() {
-        test(9, "reason 1: the game is over by a mark", () -> dueRefused(1, GameEdgesTest::overMeanwhile, x -> x.move(1)));
+        test(9, "reason 1: the game is over by a mark",
+                () -> dueRefused(1, GameEdgesTest::overMeanwhile, x -> x.move(1)));
         test(9, "reason 1: the game is over without moves", () -> dueRefused(1, () -> {
             BiddenMoves x = boughtBy0();
             x.clearMoves(0);
@@ -321,8 +353,10 @@ public final class GameEdgesTest extends Cases {
             dueRefused(2, GameEdgesTest::open, x -> x.move(5));
             dueRefused(2, GameEdgesTest::open, x -> x.move(-1));
         });
-        test(9, "reason 3: a position to which no move leads", () -> dueRefused(3, GameEdgesTest::boughtBy0, x -> x.move(3)));
-        test(9, "reason 3: the position of the game itself", () -> dueRefused(3, GameEdgesTest::boughtBy0, x -> x.move(0)));
+        test(9, "reason 3: a position to which no move leads",
+                () -> dueRefused(3, GameEdgesTest::boughtBy0, x -> x.move(3)));
+        test(9, "reason 3: the position of the game itself",
+                () -> dueRefused(3, GameEdgesTest::boughtBy0, x -> x.move(0)));
         test(9, "reason 3: no position, one below and one above", () -> {
             dueRefused(3, GameEdgesTest::boughtBy0, x -> x.move(-1));
             dueRefused(3, GameEdgesTest::boughtBy0, x -> x.move(8));
@@ -393,6 +427,13 @@ public final class GameEdgesTest extends Cases {
         test(9, "a refused move leaves the turn bought, and may be followed by a good one", () -> {
             BiddenMoves x = boughtBy0();
             dueAll(row(3, 0, 10), x.move(5), x.count(3), x.move(1));
+        });
+        test(9, "nothing else is changed", () -> {
+            dueChanges("count0 count3", Cases::rich, x -> x.move(3));
+            dueChanges("count0 count1 count2 count3", Cases::strange, x -> x.move(0));
+            dueChanges("count8", Cases::rich, x -> x.move(5));
+            dueChanges("count8", Cases::strange, x -> x.move(3));
+            dueChanges("count8", GameEdgesTest::strangeAt6, x -> x.move(3));
         });
         test(9, "undoable", () -> dueUndone(x -> x.move(1)));
         test(9, "undoable, also if it is refused: what is counted goes back", () -> {

@@ -54,7 +54,7 @@ public final class LookEdgesTest extends Cases {
         test(17, "nothing is changed", () -> {
             for (int what = 0; what <= 6; what++) {
                 int each = what;
-                dueSame(Cases::rich, x -> x.positionOf(0, each));
+                dueSame(x -> x.positionOf(0, each));
             }
         });
     }
@@ -167,7 +167,7 @@ public final class LookEdgesTest extends Cases {
         test(18, "nothing is changed", () -> {
             for (int what = 0; what <= 5; what++) {
                 int each = what;
-                dueSame(Cases::rich, x -> x.playerOf(1, each));
+                dueSame(x -> x.playerOf(1, each));
             }
         });
     }
@@ -290,7 +290,7 @@ public final class LookEdgesTest extends Cases {
         test(19, "nothing is changed", () -> {
             for (int what = 0; what <= 10; what++) {
                 int each = what;
-                dueSame(Cases::rich, x -> x.count(each));
+                dueSame(x -> x.count(each));
             }
         });
     }
@@ -319,8 +319,8 @@ public final class LookEdgesTest extends Cases {
             dueAll(row(20, 12), x.setting(0), x.setting(1));
         });
         test(20, "nothing is changed", () -> {
-            dueSame(Cases::rich, x -> x.setting(0));
-            dueSame(Cases::rich, x -> x.setting(1));
+            dueSame(x -> x.setting(0));
+            dueSame(x -> x.setting(1));
         });
     }
 

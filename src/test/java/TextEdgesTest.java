@@ -18,6 +18,17 @@ public final class TextEdgesTest extends Cases {
         return x;
     }
 
+    /** But for the buffer the call changes nothing. */
+    private static void dueBufferAlone(Call call) {
+        dueSame(() -> typedInto(rich(), ""), x -> call.of(typedInto(x, "0:1")) + x.clearBuffer());
+        dueSame(() -> typedInto(strange(), ""), x -> call.of(typedInto(x, "0:1")) + x.clearBuffer());
+    }
+
+    private static BiddenMoves typedInto(BiddenMoves x, String text) {
+        type(x, text);
+        return x;
+    }
+
     private static void append() {
         test(10, "code one below its range", () -> dueThrow(ARGUMENT, x -> x.append(32)));
         test(10, "code one above its range", () -> dueThrow(ARGUMENT, x -> x.append(127)));
@@ -53,6 +64,7 @@ public final class TextEdgesTest extends Cases {
             dueThrow(ARGUMENT, TextEdgesTest::full, x -> x.append(32));
             dueThrow(ARGUMENT, TextEdgesTest::full, x -> x.append(127));
         });
+        test(10, "nothing else is changed", () -> dueBufferAlone(x -> x.append(65)));
         test(10, "not undoable: no state is saved", () -> {
             BiddenMoves x = board("0:1");
             dueAll(row(1, 1), x.append(65), x.count(10));
@@ -79,6 +91,7 @@ public final class TextEdgesTest extends Cases {
             type(x, "0");
             due(1, x.firstError());
         });
+        test(11, "nothing else is changed", () -> dueBufferAlone(x -> x.clearBuffer()));
         test(11, "not undoable: no state is saved, and undo does not bring the text back", () -> {
             BiddenMoves x = board("0:1");
             x.append(65);
@@ -171,13 +184,19 @@ public final class TextEdgesTest extends Cases {
             dueError(0, ";0:1", "x0:1");
         });
         test(12, "nothing is changed", () -> {
-            dueSame(Cases::rich, x -> x.firstError());
+            dueSame(x -> x.firstError());
             dueSame(TextEdgesTest::full, x -> x.firstError());
         });
         test(12, "each call reads the whole buffer anew", () -> {
             BiddenMoves x = typed("0:1");
             dueAll(row(3, 3, 4, 3, 3, 3), x.firstError(), x.firstError(), x.append(49), x.firstError(), x.firstError(),
                     x.firstError());
+        });
+        test(12, "each call reads the whole buffer anew, with all positions in it", () -> {
+            BiddenMoves x = typed(LONGEST);
+            dueAll(row(55, 55, 8), x.firstError(), x.firstError(), x.load());
+            type(x, EIGHT_MARKS);
+            dueAll(row(31, 31, 8), x.firstError(), x.firstError(), x.load());
         });
     }
 
@@ -208,7 +227,8 @@ public final class TextEdgesTest extends Cases {
         test(13, "a syntax error in the first character", () -> dueNoBoard(";0:1", "8:1", "A", "~", "!0:1"));
         test(13, "a syntax error in the last character",
                 () -> dueNoBoard("0:1:", "0:0", "0:C", "0:8", "0:11", "0:A1", "0:1A", "0:12345", "0:1;;", "0:1;0"));
-        test(13, "a syntax error ahead of a good end", () -> dueNoBoard("0:0;1:A", "0:;1:A", "0:A;0:A", "x;1:A", "00:1"));
+        test(13, "a syntax error ahead of a good end",
+                () -> dueNoBoard("0:0;1:A", "0:;1:A", "0:A;0:A", "x;1:A", "00:1"));
         test(13, "an eighth part and a semicolon", () -> dueNoBoard(EIGHT_MARKS + ";", LONGEST + ";"));
         test(13, "a ninth part", () -> dueNoBoard(EIGHT_MARKS + ";0:A"));
         test(13, "a buffer of 60 characters", () -> dueNoBoard("A".repeat(60), LONGEST + ";0:12"));
@@ -264,6 +284,12 @@ public final class TextEdgesTest extends Cases {
             x.firstError();
             type(x, "3:0");
             dueAll(row(1, 1, 0, 0), x.load(), x.count(9), x.positionOf(1, 0), x.positionOf(0, 1));
+            for (String longer : new String[] {LONGEST, EIGHT_MARKS}) {
+                type(x, longer);
+                x.load();
+                type(x, "3:0");
+                dueAll(row(1, 1, 0, 0), x.load(), x.count(9), x.playerOf(0, 4), x.positionOf(7, 1));
+            }
         });
     }
 
@@ -293,6 +319,14 @@ public final class TextEdgesTest extends Cases {
             dueAll(row(6, 3, 0, 9, 5), x.playerOf(0, 0), x.playerOf(1, 0), x.count(4), x.setting(0), x.setting(1));
             dueAll(row(2, 1, 1, 2, 2), x.count(6), x.count(7), x.count(8), x.playerOf(0, 3), x.playerOf(1, 3));
         });
+        test(13, "nothing else is changed", () -> {
+            String first = "0:1234;1:A;2:B;3:01;4:0;5:02";
+            dueChanges("count3", () -> typedInto(rich(), ""), x -> typedInto(x, first).load());
+            // a mark and moves at once are not to be told by a text
+            dueChanges("count3 count9 position0.1 position0.2 position0.3 position0.4 position0.5 position1.6"
+                    + " position2.6 position3.6 position4.6", () -> typedInto(strange(), ""),
+                    x -> typedInto(x, "0:B;1:A;2:B;3:01;4:0;5:02;6:3").load());
+        });
         test(13, "undoable, but the text does not come back", () -> {
             BiddenMoves x = few();
             type(x, "0:1;1:0");
@@ -304,6 +338,21 @@ public final class TextEdgesTest extends Cases {
             type(x, "0:1");
             dueAll(row(1, 2, 1, 1), x.load(), x.count(10), x.undo(), x.count(9));
         });
+    }
+
+    /** Both slots are filled, and so the digest must stay. */
+    private static void dueSlotAlone(int slot, BiddenMoves x, BiddenMoves same) {
+        List<Long> then = looks(x);
+        x.keep(slot);
+        due(same.digest(), x.digest());
+        while (same.count(10) > 0) {
+            due(same.undo(), x.undo());
+            due(same.digest(), x.digest());
+        }
+        due(same.goBack(1 - slot), x.goBack(1 - slot));
+        due(same.digest(), x.digest());
+        x.goBack(slot);
+        dueLooks(then, looks(x));
     }
 
     private static void keep() {
@@ -373,6 +422,12 @@ public final class TextEdgesTest extends Cases {
             dueAll(row(0, 1, 1), x.keep(0), x.count(10), x.clearBuffer());
             dueLooks(before, looks(x));
         });
+        test(14, "nothing else is changed: neither the saved states nor the other slot", () -> {
+            for (int slot = 0; slot < 2; slot++) {
+                dueSlotAlone(slot, rich(), rich());
+                dueSlotAlone(slot, strange(), strange());
+            }
+        });
         test(14, "undo leaves the snapshot as it is", () -> {
             BiddenMoves x = board("0:1;1:0");
             x.place(1, 3, 1);
@@ -427,7 +482,8 @@ public final class TextEdgesTest extends Cases {
             x.goBack(0);
             dueAll(row(0, 0, -1, -1, 0, 9, 0, 0, 0, 9), x.count(0), x.count(1), x.count(2), x.count(3), x.count(4),
                     x.count(5), x.count(6), x.count(7), x.count(8), x.count(9));
-            dueAll(row(4, 5, 5, 0, 0), x.playerOf(0, 0), x.playerOf(1, 0), x.setting(1), x.playerOf(0, 3), x.playerOf(1, 3));
+            dueAll(row(4, 5, 5, 0, 0), x.playerOf(0, 0), x.playerOf(1, 0), x.setting(1), x.playerOf(0, 3),
+                    x.playerOf(1, 3));
         });
         test(15, "the settings go back", () -> {
             BiddenMoves x = board("0:1");
@@ -448,12 +504,22 @@ public final class TextEdgesTest extends Cases {
             x.load();
             dueAll(row(0, 0, 1), x.goBack(1), x.count(9), x.count(1));
         });
+        test(15, "nothing else is changed", () -> {
+            dueChanges("count0 count3 count6 player0.0 player1.0 player0.2 player0.3", Cases::rich, x -> x.goBack(1));
+            dueChanges("count3 count6 player0.0 player1.0 player1.2 player1.3", Cases::strange, x -> x.goBack(1));
+        });
         test(15, "undoable", () -> dueUndone(x -> x.goBack(1)));
         test(15, "undoable, also if it changes nothing", () -> {
             BiddenMoves x = board("0:1");
             x.keep(0);
             dueAll(row(0, 2, 0, 3), x.goBack(0), x.count(10), x.goBack(0), x.count(10));
         });
+    }
+
+    private static BiddenMoves withoutSavedStates(BiddenMoves x) {
+        for (int i = 0; i < 6; i++) x.reverse();
+        for (int i = 0; i < 6; i++) x.undo();
+        return x;
     }
 
     private static void undo() {
@@ -463,6 +529,10 @@ public final class TextEdgesTest extends Cases {
             x.undo();
             return x;
         }, x -> x.undo()));
+        test(16, "no saved state any more, though much has happened", () -> {
+            dueThrow(STATE, () -> withoutSavedStates(rich()), x -> x.undo());
+            dueThrow(STATE, () -> withoutSavedStates(strange()), x -> x.undo());
+        });
         test(16, "one saved state", () -> {
             BiddenMoves x = board("0:1");
             dueAll(row(1, 0, 0, 0), x.count(10), x.undo(), x.count(10), x.count(9));
@@ -500,7 +570,7 @@ public final class TextEdgesTest extends Cases {
             x.set(1, 2);
             dueAll(row(2, 1, 1, 6), x.undo(), x.setting(1), x.undo(), x.setting(1));
         });
-        test(16, "the undoable calls save a state, each of them, also those that are refused or change nothing", () -> {
+        test(16, "each undoable call saves a state, also if it is refused or changes nothing", () -> {
             Call[] calls = {y -> y.addMove(5, 0), y -> y.clearMoves(0), y -> y.clearMoves(7), y -> y.mark(0, 1),
                 y -> y.mark(0, 0), y -> y.reverse(), y -> y.set(0, 20), y -> y.set(1, 6), y -> y.place(1, 0, 1),
                 y -> y.bid(0, 0), y -> y.move(1), y -> y.move(7), y -> y.load(), y -> y.goBack(1)};
@@ -561,6 +631,10 @@ public final class TextEdgesTest extends Cases {
             x.place(5, 3, 1);
             for (int left = 5; left >= 0; left--) due(left, x.undo());
             dueLooks(before, looks(x));
+        });
+        test(16, "nothing else is changed", () -> {
+            dueChanges("count3 count6 player0.0 player1.0 player0.2 player0.3", Cases::rich, x -> x.undo());
+            dueChanges("count3 count6 player0.0 player1.0 player1.2 player1.3", Cases::strange, x -> x.undo());
         });
         test(16, "the buffer and the slots stay as they are", () -> {
             BiddenMoves x = board("0:1");
