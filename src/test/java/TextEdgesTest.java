@@ -202,11 +202,8 @@ public final class TextEdgesTest extends Cases {
 
     private static void dueNoBoard(String... texts) {
         for (String text : texts) {
-            dueThrow(ARGUMENT, () -> {
-                BiddenMoves x = rich();
-                type(x, text);
-                return x;
-            }, x -> x.load());
+            dueThrow(ARGUMENT, () -> typedInto(rich(), text), x -> x.load());
+            dueThrow(ARGUMENT, () -> typedInto(strange(), text), x -> x.load());
         }
     }
 
